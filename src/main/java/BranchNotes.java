@@ -407,8 +407,8 @@ public final class BranchNotes {
     }
 
     /**
-     * The bits of the float (part / whole), 0 <= part <= whole. An object's counts stay far below 2^24,
-     * so that they are floats themselves and only their quotient is rounded.
+     * The bits of the float (part / whole), 0 <= part <= whole. An object's counts stay far below 2^24:
+     * so they are floats themselves, and no quotient lies in the middle between two floats.
      */
     private static int quotientBits(int part, int whole) {
         if (part <= 0 || whole <= 0) {
@@ -420,12 +420,7 @@ public final class BranchNotes {
             scaled *= 2;
             exponent--;
         }
-        scaled <<= 23;
-        long bits = scaled / whole;
-        long twiceTheRest = 2 * (scaled % whole);
-        if (twiceTheRest > whole || twiceTheRest == whole && bits % 2 != 0) {
-            bits++;
-        }
+        long bits = ((scaled << 24) + whole) / (2L * whole);
         // The highest of the 24 bits is not written: it makes the exponent greater by 1.
         return (int) (bits + ((long) (exponent - 1) << 23));
     }

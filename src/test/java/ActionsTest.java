@@ -129,6 +129,9 @@ public final class ActionsTest {
         fresh.setDesk(1, 2, 1);
         fresh.set(1, 3);
         x.branch(3, true);
+        x.branch(4, false);
+        x.branch(5, false);
+        CHECK.same("right guesses one behind the other", x.about(5), 2);
         x.forget();
         CHECK.samePicture("forget() lets the settings stay", x, Check.picture(fresh));
     }
@@ -270,6 +273,9 @@ public final class ActionsTest {
         CHECK.same("play()", x.play(), right);
         CHECK.samePicture("play() and the branches of it", x, Check.picture(y));
         CHECK.same("the text stays", x.branches(), 7);
+        int again = x.play();
+        CHECK.same("play() again counts the right guesses of its own", again, x.about(1) - right);
+        x.undo();
         CHECK.same("play() is one action", x.undo(), 0);
         CHECK.samePicture("play() taken back", x, Check.picture(new BranchNotes()));
 
@@ -284,6 +290,8 @@ public final class ActionsTest {
         CHECK.same("wouldBring() of 308", most.wouldBring(), Check.NONE);
 
         limit("((a+)5(b-)5)6(((a+)4)7d-d-)8", 300, true);
+        limit("(((z+y-x+)5)5)4", 300, true);
+        limit("(((z+y-x+)2)3(q+)7)9a+b+", 227, true);
         limit("((a+)5(b-)5)6(((a+)4)7d-d-)8z+", 301, false);
         limit("z+((a+)5(b-)5)6(((a+)4)7d-d-)8", 301, false);
         limit("((a+)5(b-)5)6(((a+)4)7d-d-)8(z+)9", 309, false);
@@ -301,10 +309,29 @@ public final class ActionsTest {
         if (playable) {
             x.play();
             CHECK.same("branches gone", x.about(0), branches);
+            x.undo();
+            playOneByOne(x, text);
         } else {
             CHECK.refuses(Check.STATE, "play() of " + text, x::play);
             CHECK.same("branches gone", x.about(0), 0);
         }
+    }
+
+    /** Compares play() with the branches of a text without parentheses that has the same branches. */
+    private static void playOneByOne(BranchNotes x, String text) {
+        String flat = text;
+        while (flat.indexOf(')') >= 0) {
+            int end = flat.indexOf(')');
+            int start = flat.lastIndexOf('(', end);
+            String items = flat.substring(start + 1, end).repeat(flat.charAt(end + 1) - '0');
+            flat = flat.substring(0, start) + items + flat.substring(end + 2);
+        }
+        BranchNotes y = new BranchNotes();
+        for (int k = 0; k < flat.length(); k += 2) {
+            y.branch(flat.charAt(k) - 'a', flat.charAt(k + 1) == '+');
+        }
+        x.play();
+        CHECK.samePicture("play() of " + text, x, Check.picture(y));
     }
 
     private static void testUndo() {

@@ -35,6 +35,7 @@ public final class ScriptTest {
         BranchNotes x = new BranchNotes();
         for (int n : new int[] {0, 4, -1, Integer.MIN_VALUE, Integer.MAX_VALUE}) {
             CHECK.refuses(Check.ARGUMENT, "runScript(" + n + ", 40000)", () -> x.runScript(n, 40000));
+            CHECK.refuses(Check.ARGUMENT, "runScript(" + n + ", 0)", () -> x.runScript(n, 0));
         }
         long behind = 1;
         for (int n = 1; n <= 3; n++) {
@@ -218,6 +219,14 @@ public final class ScriptTest {
         x.branch(3, true);
         x.branch(4, true);
         CHECK.same("points", x.about(2), 126 - 36);
+        BranchNotes y = Check.with("((a-)9(a-)3)9(a-)3");
+        for (int k = 0; k < 9; k++) {
+            y.play();
+        }
+        CHECK.same("right guesses", y.about(1), 999);
+        succeeds(y, 70999);
+        y.undo();
+        fails(y, 70999);
         succeeds(x, 90090);
         fails(x, 90091);
         succeeds(x, 70126);
