@@ -5,12 +5,35 @@ final class Check {
     static final Class<?> STATE = IllegalStateException.class;
     static final int NONE = BranchNotes.NONE;
 
+    /** Numbers that are no desk and no save slot, and numbers that are no place. */
+    static final int[] NOT_OF_TWO = {-1, 2, Integer.MIN_VALUE, Integer.MAX_VALUE};
+    static final int[] NO_PLACE = {-1, 26, Integer.MIN_VALUE, Integer.MAX_VALUE};
+
     private final String name;
     private int checks;
     private int wrong;
+    private int sentences;
+    /** The sentence that is tested now; empty if the test is of no single one. */
+    private String sentence = "";
 
     Check(String name) {
         this.name = name;
+    }
+
+    /** Tests one sentence of the document, given in its own words: at least one check must come of it. */
+    void sentence(String where, String words, Runnable test) {
+        sentence = " [" + where + ": " + words + "]";
+        sentences++;
+        int before = checks;
+        try {
+            test.run();
+        } catch (RuntimeException | AssertionError e) {
+            fail("the test ended with " + e);
+        }
+        if (checks == before) {
+            fail("nothing was checked");
+        }
+        sentence = "";
     }
 
     void same(String call, long got, long due) {
@@ -22,6 +45,13 @@ final class Check {
 
     void same(String call, boolean got, boolean due) {
         same(call, got ? 1 : 0, due ? 1 : 0);
+    }
+
+    void sameText(String call, String got, String due) {
+        checks++;
+        if (!got.equals(due)) {
+            fail(call + ":\n" + got + "\ndue is\n" + due);
+        }
     }
 
     /** The call throws an exception of exactly this class. */
@@ -39,11 +69,12 @@ final class Check {
 
     void fail(String what) {
         wrong++;
-        System.out.println(name + ": " + what);
+        System.out.println(name + sentence + ": " + what);
     }
 
     void end() {
-        System.out.println(name + ": " + checks + " checks, " + wrong + " wrong");
+        String tested = sentences > 0 ? sentences + " sentences, " : "";
+        System.out.println(name + ": " + tested + checks + " checks, " + wrong + " wrong");
         if (wrong != 0) {
             System.exit(1);
         }
@@ -95,10 +126,6 @@ final class Check {
     }
 
     void samePicture(String call, BranchNotes x, String due) {
-        checks++;
-        String got = picture(x);
-        if (!got.equals(due)) {
-            fail(call + ": the state is\n" + got + "\ndue is\n" + due);
-        }
+        sameText(call, picture(x), due);
     }
 }
