@@ -356,6 +356,12 @@ public final class ActionsEdgesTest {
             refusesPlay("a-" + text, 301);
             refusesPlay("(a-)2" + text, 302);
         }
+        // Nothing of a text with too many branches comes back with the next text.
+        Run z = Run.with("((((z+)9)9)9)9");
+        CHECK.refuses(Check.STATE, "play() of 6561", z::play);
+        z.clearText();
+        CHECK.same("play() of the next text", z.type("(a-)3").play(), 3);
+        CHECK.same("branches at z", z.place(25, 0), 0);
         // The 300th branch is another one than all before it.
         Run y = Run.with("((a-)9(a-)9(a-)9(a-)6)9b+c+d+");
         CHECK.same("play() of 300, three of them wrong", y.play(), 297);

@@ -355,6 +355,7 @@ public final class ScriptEdgesTest {
     }
 
     private static void otherGroups() {
+        CHECK.sentence("Promise 26", "pp, ii, xy and xyz are decimal numbers.", ScriptEdgesTest::decimalNumbers);
         CHECK.sentence("Promise 26", "and so does any other group (also one with another digit where a 0 is written)",
                 () -> {
             Run x = new Run();
@@ -376,6 +377,30 @@ public final class ScriptEdgesTest {
                 fails(x, 90000 + 1000 * digit);
             }
         });
+    }
+
+    /** Each number has a neighbour that another base, or other digits of the group, would take for it. */
+    private static void decimalNumbers() {
+        Run x = new Run();
+        x.set(0, 6);
+        for (int p : new int[] {0, 8, 9, 10, 19, 25}) {
+            x.strengthen(0, p, 3);
+            succeeds(x, 60010 + 100 * p);
+            fails(x, 60000 + 100 * p);
+            fails(x, 60110 + 100 * p);
+        }
+        for (int i : new int[] {8, 10, 36, 63}) {
+            script(x, 2, (51002L + 10 * i) * 100000 + 81002 + 10 * i, NONE);
+            script(x, 2, (51002L + 10 * i) * 100000 + 81002 + 10 * (i - 1), 1);
+        }
+        x.forget();
+        x.go(11, false, 123);
+        succeeds(x, 70123);
+        fails(x, 70124);
+        x.forget();
+        x.go(11, false, 21);
+        succeeds(x, 90021);
+        fails(x, 90022);
     }
 
     // ---- promise 27
@@ -402,6 +427,27 @@ public final class ScriptEdgesTest {
             for (long seed : seeds) {
                 simulateIs(x -> { }, seed, 1);
                 simulateIs(x -> { }, seed, 100);
+            }
+        });
+        CHECK.sentence("Promise 27", "A long x starts as the seed (once).", () -> {
+            // The second branch goes on from the number of the first: a seed of its own would bring the same again.
+            for (long seed = -10; seed < 10; seed++) {
+                simulateIs(ScriptEdgesTest::someBranches, seed, 2);
+                simulateIs(ScriptEdgesTest::someBranches, seed, 5);
+            }
+        });
+        CHECK.sentence("Promise 27", "The place is r % 8", () -> {
+            for (long seed = 0; seed < 40; seed++) {
+                Run x = new Run();
+                x.setDesk(1, 0, 0);
+                long number = seed * 6364136223846793005L + 1442695040888963407L;
+                int p = (int) (number >>> 33) % 8;
+                for (int q = 0; q < 8; q++) {
+                    x.strengthen(0, q, q == p ? 3 : 0);
+                }
+                CHECK.same("the first branch is at the place " + p, x.simulate(seed, 1), 1000);
+                x.strengthen(0, p, 0);
+                CHECK.same("the note of " + p + " says not taken", x.simulate(seed, 1), 0);
             }
         });
         CHECK.sentence("Promise 27", "(The branch before the first one was not taken.)", () -> {
