@@ -21,8 +21,8 @@ public final class ActionsTest {
     }
 
     /** An object in which everything that can be counted has been counted. */
-    private static BranchNotes used() {
-        BranchNotes x = Check.with("(a+b-(c+a-)2q+)3");
+    private static Run used() {
+        Run x = Run.with("(a+b-(c+a-)2q+)3");
         x.strengthen(0, 5, 3);
         x.play();
         return x;
@@ -32,16 +32,16 @@ public final class ActionsTest {
         int[] most = {4, 6, 1};
         for (int d = 0; d < 2; d++) {
             for (int what = 0; what < 3; what++) {
-                int before = new BranchNotes().desk(d, what);
+                int before = new Run().desk(d, what);
                 for (int v = 0; v <= most[what]; v++) {
-                    BranchNotes x = used();
+                    Run x = used();
                     String call = "setDesk(" + d + ", " + what + ", " + v + ")";
                     CHECK.same(call, x.setDesk(d, what, v), before);
                     CHECK.same("desk() behind " + call, x.desk(d, what), v);
                     CHECK.same(call + " again", x.setDesk(d, what, v), v);
-                    BranchNotes fresh = new BranchNotes();
+                    Run fresh = new Run();
                     fresh.setDesk(d, what, v);
-                    CHECK.samePicture(call + " makes all as at first", x, Check.picture(fresh));
+                    CHECK.samePicture(call + " makes all as at first", x, fresh.picture());
                 }
                 int behind = most[what] + 1;
                 refusesSetDesk(d, what, behind);
@@ -54,7 +54,7 @@ public final class ActionsTest {
             refusesSetDesk(d, Integer.MAX_VALUE, 0);
             refusesSetDesk(d, Integer.MIN_VALUE, 0);
         }
-        BranchNotes x = new BranchNotes();
+        Run x = new Run();
         x.setDesk(0, 1, 5);
         x.setDesk(1, 0, 2);
         x.set(0, 6);
@@ -65,8 +65,8 @@ public final class ActionsTest {
     }
 
     private static void refusesSetDesk(int d, int what, int v) {
-        BranchNotes x = used();
-        String before = Check.picture(x);
+        Run x = used();
+        String before = x.picture();
         CHECK.refuses(Check.ARGUMENT, "setDesk(" + d + ", " + what + ", " + v + ")", () -> x.setDesk(d, what, v));
         CHECK.samePicture("a refused setDesk", x, before);
         CHECK.same("a refused setDesk is not remembered", x.undo(), 1);
@@ -78,14 +78,14 @@ public final class ActionsTest {
         int[] first = {4, 2, 2};
         for (int what = 0; what < 3; what++) {
             for (int v = least[what]; v <= most[what]; v++) {
-                BranchNotes x = used();
+                Run x = used();
                 String call = "set(" + what + ", " + v + ")";
                 CHECK.same(call, x.set(what, v), first[what]);
                 CHECK.same("about() behind " + call, x.about(7 + what), v);
                 CHECK.same(call + " again", x.set(what, v), v);
-                BranchNotes fresh = new BranchNotes();
+                Run fresh = new Run();
                 fresh.set(what, v);
-                CHECK.samePicture(call + " makes all as at first", x, Check.picture(fresh));
+                CHECK.samePicture(call + " makes all as at first", x, fresh.picture());
             }
             refusesSet(what, least[what] - 1);
             refusesSet(what, most[what] + 1);
@@ -95,7 +95,7 @@ public final class ActionsTest {
         for (int what : new int[] {-1, 3, Integer.MIN_VALUE, Integer.MAX_VALUE}) {
             refusesSet(what, 2);
         }
-        BranchNotes x = new BranchNotes();
+        Run x = new Run();
         x.setDesk(0, 1, 5);
         x.set(0, 5);
         x.set(1, 4);
@@ -107,25 +107,25 @@ public final class ActionsTest {
     }
 
     private static void refusesSet(int what, int v) {
-        BranchNotes x = used();
-        String before = Check.picture(x);
+        Run x = used();
+        String before = x.picture();
         CHECK.refuses(Check.ARGUMENT, "set(" + what + ", " + v + ")", () -> x.set(what, v));
         CHECK.samePicture("a refused set", x, before);
         CHECK.same("a refused set is not remembered", x.undo(), 1);
     }
 
     private static void testForget() {
-        BranchNotes x = used();
+        Run x = used();
         int points = x.about(2);
         CHECK.same("forget()", x.forget(), points);
-        CHECK.samePicture("forget()", x, Check.picture(new BranchNotes()));
+        CHECK.samePicture("forget()", x, new Run().picture());
         CHECK.same("forget() of nothing", x.forget(), 0);
         x.branch(0, true);
         x.branch(0, true);
         CHECK.same("forget() of points below 0", x.forget(), 1 - 2);
         x.setDesk(1, 2, 1);
         x.set(1, 3);
-        BranchNotes fresh = new BranchNotes();
+        Run fresh = new Run();
         fresh.setDesk(1, 2, 1);
         fresh.set(1, 3);
         x.branch(3, true);
@@ -133,12 +133,12 @@ public final class ActionsTest {
         x.branch(5, false);
         CHECK.same("right guesses one behind the other", x.about(5), 2);
         x.forget();
-        CHECK.samePicture("forget() lets the settings stay", x, Check.picture(fresh));
+        CHECK.samePicture("forget() lets the settings stay", x, fresh.picture());
     }
 
     private static void testStrengthen() {
         for (int middle = 1; middle <= 4; middle++) {
-            BranchNotes x = new BranchNotes();
+            Run x = new Run();
             x.set(1, middle);
             int behind = 2 * middle;
             CHECK.same("strengthen(1, 15, most)", x.strengthen(1, 15, behind - 1), middle - 1);
@@ -153,7 +153,7 @@ public final class ActionsTest {
             CHECK.refuses(Check.INDEX, "strengthen(2, 0, -1)", () -> x.strengthen(2, 0, -1));
             CHECK.same("refused calls are not remembered", x.undo(), 2);
         }
-        BranchNotes x = used();
+        Run x = used();
         x.strengthen(0, 9, 3);
         CHECK.same("a strengthened note is not used", x.note(0, 9, 2), 0);
         CHECK.same("a strengthened note has no last place", x.note(0, 9, 1), Check.NONE);
@@ -164,7 +164,7 @@ public final class ActionsTest {
     }
 
     private static void testBranch() {
-        BranchNotes x = new BranchNotes();
+        Run x = new Run();
         CHECK.same("branch(4, false)", x.branch(4, false), true);
         CHECK.same("branch(4, true)", x.branch(4, true), false);
         CHECK.same("branch(4, true)", x.branch(4, true), false);
@@ -180,7 +180,7 @@ public final class ActionsTest {
 
     /** The desk 0 has one note for a place, the desk 1 here too: the strengths are set so that they differ. */
     private static void testChooser() {
-        BranchNotes x = new BranchNotes();
+        Run x = new Run();
         x.setDesk(1, 0, 0);
         int[] toTheLast = {2, 3, 3};
         for (int due : toTheLast) {
@@ -211,7 +211,7 @@ public final class ActionsTest {
 
     private static void testStrengthLimits() {
         for (int middle = 1; middle <= 4; middle++) {
-            BranchNotes x = new BranchNotes();
+            Run x = new Run();
             x.set(1, middle);
             int strength = middle - 1;
             for (int k = 0; k < 10; k++) {
@@ -229,7 +229,7 @@ public final class ActionsTest {
     }
 
     private static void testClashes() {
-        BranchNotes x = new BranchNotes();
+        Run x = new Run();
         x.setDesk(1, 0, 1);
         x.setDesk(1, 1, 0);
         x.branch(3, true);
@@ -249,7 +249,7 @@ public final class ActionsTest {
     }
 
     private static void testOwnPaths() {
-        BranchNotes x = new BranchNotes();
+        Run x = new Run();
         x.setDesk(1, 2, 1);
         x.branch(1, true);
         x.branch(2, true);
@@ -262,8 +262,8 @@ public final class ActionsTest {
     }
 
     private static void testPlay() {
-        BranchNotes x = Check.with("(a+b-)3z+");
-        BranchNotes y = new BranchNotes();
+        Run x = Run.with("(a+b-)3z+");
+        Run y = new Run();
         int right = 0;
         for (int k = 0; k < 3; k++) {
             right += y.branch(0, true) ? 1 : 0;
@@ -271,19 +271,19 @@ public final class ActionsTest {
         }
         right += y.branch(25, true) ? 1 : 0;
         CHECK.same("play()", x.play(), right);
-        CHECK.samePicture("play() and the branches of it", x, Check.picture(y));
+        CHECK.samePicture("play() and the branches of it", x, y.picture());
         CHECK.same("the text stays", x.branches(), 7);
         int again = x.play();
         CHECK.same("play() again counts the right guesses of its own", again, x.about(1) - right);
         x.undo();
         CHECK.same("play() is one action", x.undo(), 0);
-        CHECK.samePicture("play() taken back", x, Check.picture(new BranchNotes()));
+        CHECK.samePicture("play() taken back", x, new Run().picture());
 
-        BranchNotes none = new BranchNotes();
+        Run none = new Run();
         CHECK.same("play() of nothing", none.play(), 0);
         CHECK.same("it is an action", none.undo(), 0);
 
-        BranchNotes most = Check.with("((a+)5(b-)5)6(c+)8(((a+)4)7d-d-)8");
+        Run most = Run.with("((a+)5(b-)5)6(c+)8(((a+)4)7d-d-)8");
         CHECK.same("branches()", most.branches(), 60 + 8 + 240);
         CHECK.refuses(Check.STATE, "play() of 308", most::play);
         CHECK.refuses(Check.STATE, "it is no action", most::undo);
@@ -297,14 +297,14 @@ public final class ActionsTest {
         limit("((a+)5(b-)5)6(((a+)4)7d-d-)8(z+)9", 309, false);
         limit("((((a+b+)9)9)9)9", 13122, false);
         for (String text : new String[] {"a", "(a+", "a+)", "a+ "}) {
-            BranchNotes wrong = Check.with(text);
+            Run wrong = Run.with(text);
             CHECK.refuses(Check.STATE, "play() of " + text, wrong::play);
-            CHECK.samePicture("a refused play()", wrong, Check.picture(new BranchNotes()));
+            CHECK.samePicture("a refused play()", wrong, new Run().picture());
         }
     }
 
     private static void limit(String text, int branches, boolean playable) {
-        BranchNotes x = Check.with(text);
+        Run x = Run.with(text);
         CHECK.same("branches() of " + text, x.branches(), branches);
         if (playable) {
             x.play();
@@ -318,7 +318,7 @@ public final class ActionsTest {
     }
 
     /** Compares play() with the branches of a text without parentheses that has the same branches. */
-    private static void playOneByOne(BranchNotes x, String text) {
+    private static void playOneByOne(Run x, String text) {
         String flat = text;
         while (flat.indexOf(')') >= 0) {
             int end = flat.indexOf(')');
@@ -326,20 +326,20 @@ public final class ActionsTest {
             String items = flat.substring(start + 1, end).repeat(flat.charAt(end + 1) - '0');
             flat = flat.substring(0, start) + items + flat.substring(end + 2);
         }
-        BranchNotes y = new BranchNotes();
+        Run y = new Run();
         for (int k = 0; k < flat.length(); k += 2) {
             y.branch(flat.charAt(k) - 'a', flat.charAt(k + 1) == '+');
         }
         x.play();
-        CHECK.samePicture("play() of " + text, x, Check.picture(y));
+        CHECK.samePicture("play() of " + text, x, y.picture());
     }
 
     private static void testUndo() {
-        BranchNotes x = new BranchNotes();
+        Run x = new Run();
         CHECK.refuses(Check.STATE, "undo() of nothing", x::undo);
         String[] pictures = new String[31];
         for (int k = 0; k <= 30; k++) {
-            pictures[k] = Check.picture(x);
+            pictures[k] = x.picture();
             x.branch(k % 5, k % 3 == 0);
         }
         for (int k = 13; k >= 0; k--) {
@@ -356,24 +356,24 @@ public final class ActionsTest {
     }
 
     private static void testUndoOfEachAction() {
-        BranchNotes x = used();
+        Run x = used();
         String[] pictures = new String[8];
-        pictures[0] = Check.picture(x);
+        pictures[0] = x.picture();
         x.branch(3, true);
-        pictures[1] = Check.picture(x);
+        pictures[1] = x.picture();
         x.strengthen(1, 3, 3);
-        pictures[2] = Check.picture(x);
+        pictures[2] = x.picture();
         x.play();
-        pictures[3] = Check.picture(x);
+        pictures[3] = x.picture();
         x.forget();
-        pictures[4] = Check.picture(x);
+        pictures[4] = x.picture();
         x.play();
-        pictures[5] = Check.picture(x);
+        pictures[5] = x.picture();
         x.set(0, 6);
         x.branch(25, true);
-        pictures[6] = Check.picture(x);
+        pictures[6] = x.picture();
         x.setDesk(1, 2, 1);
-        pictures[7] = Check.picture(x);
+        pictures[7] = x.picture();
         x.set(2, 2);
         int[] before = {7, 6, -1, 5, 4, 3, 2, 1, 0};
         for (int k = 0; k < before.length; k++) {
@@ -385,8 +385,8 @@ public final class ActionsTest {
     }
 
     private static void testRefusals() {
-        BranchNotes x = used();
-        String before = Check.picture(x);
+        Run x = used();
+        String before = x.picture();
         for (int d : NO_DESK) {
             CHECK.refuses(Check.INDEX, "setDesk(" + d + ", 0, 0)", () -> x.setDesk(d, 0, 0));
             CHECK.refuses(Check.INDEX, "setDesk(" + d + ", 9, 99)", () -> x.setDesk(d, 9, 99));

@@ -80,52 +80,8 @@ final class Check {
         }
     }
 
-    static void type(BranchNotes x, String text) {
-        for (char c : text.toCharArray()) {
-            x.append(c);
-        }
-    }
-
-    static BranchNotes with(String text) {
-        BranchNotes x = new BranchNotes();
-        type(x, text);
-        return x;
-    }
-
-    /** Every answer about the state, so that two states can be compared. */
-    static String picture(BranchNotes x) {
-        StringBuilder all = new StringBuilder();
-        for (int what = 0; what < 10; what++) {
-            all.append(x.about(what)).append(' ');
-        }
-        for (int d = 0; d < 2; d++) {
-            pictureOfDesk(x, d, all);
-        }
-        for (int p = 0; p < 26; p++) {
-            all.append("\nplace ").append(p).append(": ").append(x.share(p));
-            for (int what = 0; what < 5; what++) {
-                all.append(' ').append(x.place(p, what));
-            }
-        }
-        return all.toString();
-    }
-
-    private static void pictureOfDesk(BranchNotes x, int d, StringBuilder all) {
-        all.append("\ndesk ").append(d).append(':');
-        for (int what = 0; what < 5; what++) {
-            all.append(' ').append(x.desk(d, what));
-        }
-        for (int i = 0; i < 1 << x.about(7); i++) {
-            for (int what = 0; what < 4; what++) {
-                all.append(what == 0 ? ", " : " ").append(x.note(d, i, what));
-            }
-        }
-        for (int p = 0; p < 26; p++) {
-            all.append(' ').append(x.path(d, p)).append('/').append(x.noteOf(d, p));
-        }
-    }
-
-    void samePicture(String call, BranchNotes x, String due) {
-        sameText(call, picture(x), due);
+    /** The state behind all calls of the object so far is the one of this picture. */
+    void samePicture(String call, Run x, String due) {
+        sameText(call, x.picture(), due);
     }
 }

@@ -9,13 +9,34 @@ import java.util.TreeSet;
 /** The public face and the constant, and promise 1: a new object. */
 public final class FaceTest {
     private static final String[] FACE = {
-        "int about(int)", "int append(int)", "int bestLength(int)", "int bestMixing(int)",
-        "boolean branch(int,boolean)", "int branches()", "int clearText()", "int desk(int,int)",
-        "int errorPosition()", "int forget()", "int holds(int)", "int note(int,int,int)",
-        "int noteOf(int,int)", "int path(int,int)", "int place(int,int)", "int play()",
-        "int restore(int)", "int runScript(int,long)", "int save(int)", "int set(int,int)",
-        "int setDesk(int,int,int)", "int share(int)", "int sharing(int,int)", "int simulate(long,int)",
-        "int strengthen(int,int,int)", "int undo()", "int worst()", "int wouldBring()",
+        "int append(int) throws IllegalArgumentException,IllegalStateException",
+        "int clearText()",
+        "int errorPosition()",
+        "int branches()",
+        "int about(int) throws IllegalArgumentException",
+        "int desk(int,int) throws IndexOutOfBoundsException,IllegalArgumentException",
+        "int note(int,int,int) throws IndexOutOfBoundsException,IllegalArgumentException",
+        "int place(int,int) throws IndexOutOfBoundsException,IllegalArgumentException",
+        "int path(int,int) throws IndexOutOfBoundsException",
+        "int noteOf(int,int) throws IndexOutOfBoundsException",
+        "int share(int) throws IndexOutOfBoundsException",
+        "int setDesk(int,int,int) throws IndexOutOfBoundsException,IllegalArgumentException",
+        "int set(int,int) throws IllegalArgumentException",
+        "int forget()",
+        "int strengthen(int,int,int) throws IndexOutOfBoundsException,IllegalArgumentException",
+        "boolean branch(int,boolean) throws IndexOutOfBoundsException",
+        "int play() throws IllegalStateException",
+        "int undo() throws IllegalStateException",
+        "int wouldBring()",
+        "int bestMixing(int) throws IndexOutOfBoundsException",
+        "int bestLength(int) throws IndexOutOfBoundsException",
+        "int sharing(int,int) throws IndexOutOfBoundsException",
+        "int holds(int) throws IndexOutOfBoundsException",
+        "int worst()",
+        "int runScript(int,long) throws IllegalArgumentException",
+        "int simulate(long,int) throws IllegalArgumentException",
+        "int save(int) throws IndexOutOfBoundsException",
+        "int restore(int) throws IndexOutOfBoundsException,IllegalStateException",
     };
 
     public static void main(String[] args) {
@@ -36,8 +57,9 @@ public final class FaceTest {
                 hidden.add(m.getName());
                 continue;
             }
-            String given = Arrays.toString(m.getParameterTypes()).replace("[", "").replace("]", "").replace(" ", "");
-            seen.add(m.getReturnType() + " " + m.getName() + "(" + given + ")");
+            String thrown = names(m.getExceptionTypes());
+            seen.add(m.getReturnType() + " " + m.getName() + "(" + names(m.getParameterTypes()) + ")"
+                    + (thrown.isEmpty() ? "" : " throws " + thrown));
             check.same(m.getName() + " is public and no more", m.getModifiers(), Modifier.PUBLIC);
         }
         Set<String> due = new TreeSet<>(Arrays.asList(FACE));
@@ -58,8 +80,16 @@ public final class FaceTest {
         }
     }
 
+    private static String names(Class<?>[] classes) {
+        StringBuilder all = new StringBuilder();
+        for (Class<?> c : classes) {
+            all.append(all.length() > 0 ? "," : "").append(c.getSimpleName());
+        }
+        return all.toString();
+    }
+
     private static void testNewObject(Check check) {
-        BranchNotes x = new BranchNotes();
+        Run x = new Run();
         int[] about = {0, 0, 0, 0, 0, 0, 0, 4, 2, 2};
         for (int what = 0; what < about.length; what++) {
             check.same("about(" + what + ")", x.about(what), about[what]);
@@ -92,7 +122,7 @@ public final class FaceTest {
         check.refuses(Check.STATE, "undo()", x::undo);
         check.refuses(Check.STATE, "restore(0)", () -> x.restore(0));
         check.refuses(Check.STATE, "restore(1)", () -> x.restore(1));
-        new BranchNotes().branch(0, true);
+        new Run().branch(0, true);
         check.same("objects have nothing in common", x.about(0), 0);
     }
 }

@@ -4,7 +4,7 @@ import java.util.function.LongSupplier;
 /** Long runs of mixed calls, good ones and bad ones, each answered by the class and by the model. */
 public final class ModelTest {
     private static final int RUNS = 400;
-    private static final int CALLS = 512;
+    private static final int MOST_CALLS_OF_A_STEP = 3;
     private static final int[] EDGES = {-1, Integer.MIN_VALUE, Integer.MAX_VALUE, 99, 26, 64};
 
     private final Check check;
@@ -12,6 +12,7 @@ public final class ModelTest {
     private final BranchNotes x = new BranchNotes();
     private final Model y = new Model();
     private String rest = "";
+    private int calls;
 
     private ModelTest(Check check, int seed) {
         this.check = check;
@@ -22,8 +23,8 @@ public final class ModelTest {
         Check check = new Check("ModelTest");
         for (int run = 0; run < RUNS; run++) {
             ModelTest test = new ModelTest(check, run);
-            for (int k = 0; k < CALLS; k++) {
-                test.step("run " + run + ", call " + k + ": ");
+            while (test.calls + MOST_CALLS_OF_A_STEP <= Run.MOST_CALLS) {
+                test.step("run " + run + ", call " + test.calls + ": ");
             }
         }
         check.end();
@@ -39,6 +40,7 @@ public final class ModelTest {
     }
 
     private void same(String call, LongSupplier got, LongSupplier due) {
+        calls++;
         check.same(call, answer(got), answer(due));
     }
 

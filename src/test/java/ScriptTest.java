@@ -17,22 +17,22 @@ public final class ScriptTest {
         CHECK.end();
     }
 
-    private static void script(BranchNotes x, int n, long script, int due) {
-        String before = Check.picture(x);
+    private static void script(Run x, int n, long script, int due) {
+        String before = x.picture();
         CHECK.same("runScript(" + n + ", " + script + ")", x.runScript(n, script), due);
         CHECK.samePicture("runScript(" + n + ", " + script + ")", x, before);
     }
 
-    private static void succeeds(BranchNotes x, int group) {
+    private static void succeeds(Run x, int group) {
         script(x, 1, group, Check.NONE);
     }
 
-    private static void fails(BranchNotes x, int group) {
+    private static void fails(Run x, int group) {
         script(x, 1, group, 0);
     }
 
     private static void testArguments() {
-        BranchNotes x = new BranchNotes();
+        Run x = new Run();
         for (int n : new int[] {0, 4, -1, Integer.MIN_VALUE, Integer.MAX_VALUE}) {
             CHECK.refuses(Check.ARGUMENT, "runScript(" + n + ", 40000)", () -> x.runScript(n, 40000));
             CHECK.refuses(Check.ARGUMENT, "runScript(" + n + ", 0)", () -> x.runScript(n, 0));
@@ -55,7 +55,7 @@ public final class ScriptTest {
     }
 
     private static void testOrder() {
-        BranchNotes x = new BranchNotes();
+        Run x = new Run();
         script(x, 1, 40000, Check.NONE);
         script(x, 2, 40000, 0);
         script(x, 2, 4000040000L, Check.NONE);
@@ -73,7 +73,7 @@ public final class ScriptTest {
     }
 
     private static void testBranches() {
-        BranchNotes x = new BranchNotes();
+        Run x = new Run();
         succeeds(x, 10001);
         succeeds(x, 10011);
         succeeds(x, 12519);
@@ -98,13 +98,13 @@ public final class ScriptTest {
     }
 
     private static void testSettings() {
-        BranchNotes x = new BranchNotes();
         int[] most = {4, 6, 1};
         for (int d = 0; d < 10; d++) {
             for (int w = 0; w < 10; w++) {
                 for (int v = 0; v < 10; v++) {
                     int group = 20000 + 1000 * d + 100 * w + 10 * v;
                     boolean good = d < 2 && w < 3 && v <= most[w];
+                    Run x = new Run();
                     script(x, 1, group, good ? Check.NONE : 0);
                     fails(x, group + 1);
                 }
@@ -116,11 +116,13 @@ public final class ScriptTest {
             for (int v = 0; v < 10; v++) {
                 int group = 30000 + 1000 * w + 100 * v;
                 boolean good = w < 3 && v >= least[w] && v <= greatest[w];
+                Run x = new Run();
                 script(x, 1, group, good ? Check.NONE : 0);
                 fails(x, group + 1);
                 fails(x, group + 10);
             }
         }
+        Run x = new Run();
         // the size 6 gives the note 63; the middle 4 the strength 7
         script(x, 2, 3060080630L, Check.NONE);
         script(x, 1, 80630, 0);
@@ -135,7 +137,7 @@ public final class ScriptTest {
     }
 
     private static void testForget() {
-        BranchNotes x = new BranchNotes();
+        Run x = new Run();
         succeeds(x, 40000);
         for (int other : new int[] {1, 10, 100, 1000, 9999}) {
             fails(x, 40000 + other);
@@ -146,7 +148,7 @@ public final class ScriptTest {
     }
 
     private static void testStrengths() {
-        BranchNotes x = new BranchNotes();
+        Run x = new Run();
         succeeds(x, 50000);
         succeeds(x, 51153);
         fails(x, 51154);
@@ -173,7 +175,7 @@ public final class ScriptTest {
     }
 
     private static void testGuesses() {
-        BranchNotes x = new BranchNotes();
+        Run x = new Run();
         x.strengthen(0, 4, 2);
         succeeds(x, 60410);
         fails(x, 60400);
@@ -192,7 +194,7 @@ public final class ScriptTest {
     }
 
     private static void testCounts() {
-        BranchNotes x = new BranchNotes();
+        Run x = new Run();
         succeeds(x, 70000);
         fails(x, 70001);
         fails(x, 71000);
@@ -204,7 +206,7 @@ public final class ScriptTest {
         fails(x, 90000);
         succeeds(x, 70000);
         x.forget();
-        Check.type(x, "((a-)9(a-)5)9");
+        x.type("((a-)9(a-)5)9");
         x.play();
         succeeds(x, 70126);
         fails(x, 70127);
@@ -219,7 +221,7 @@ public final class ScriptTest {
         x.branch(3, true);
         x.branch(4, true);
         CHECK.same("points", x.about(2), 126 - 36);
-        BranchNotes y = Check.with("((a-)9(a-)3)9(a-)3");
+        Run y = Run.with("((a-)9(a-)3)9(a-)3");
         for (int k = 0; k < 9; k++) {
             y.play();
         }
@@ -235,10 +237,13 @@ public final class ScriptTest {
 
     /** No group makes anything else happen than success or failure at 0. */
     private static void testEveryGroup() {
-        BranchNotes x = new BranchNotes();
-        x.branch(3, false);
+        Run x = new Run();
         int good = 0;
         for (int group = 0; group < 100000; group++) {
+            if (group % 500 == 0) {
+                x = new Run();
+                x.branch(3, false);
+            }
             int answer = x.runScript(1, group);
             if (answer == Check.NONE) {
                 good++;
@@ -254,9 +259,9 @@ public final class ScriptTest {
     }
 
     private static void testCopy() {
-        BranchNotes x = new BranchNotes();
+        Run x = new Run();
         x.branch(3, true);
-        String before = Check.picture(x);
+        String before = x.picture();
         x.runScript(3, 100193060051153L);
         x.runScript(2, 2114040000L);
         x.simulate(1, 300);
@@ -265,11 +270,11 @@ public final class ScriptTest {
     }
 
     private static void testSimulate() {
-        BranchNotes x = new BranchNotes();
+        Run x = new Run();
         for (int m : new int[] {0, 301, -1, Integer.MIN_VALUE, Integer.MAX_VALUE}) {
             CHECK.refuses(Check.ARGUMENT, "simulate(1, " + m + ")", () -> x.simulate(1, m));
         }
-        BranchNotes large = sized(6);
+        Run large = sized(6);
         large.setDesk(1, 2, 1);
         CHECK.same("simulate(4, 200) with 64 notes and own paths", large.simulate(4, 200), 135135);
         long[] seeds = {0, 1, -1, 42, Long.MIN_VALUE, Long.MAX_VALUE, 123456789012345L};
@@ -277,7 +282,7 @@ public final class ScriptTest {
             for (int m : new int[] {1, 2, 3, 50, 299, 300}) {
                 for (int size = 2; size <= 6; size++) {
                     compare(sized(size), seed, m);
-                    BranchNotes used = sized(size);
+                    Run used = sized(size);
                     used.setDesk(1, 2, 1);
                     used.branch(3, true);
                     used.branch(7, true);
@@ -287,15 +292,15 @@ public final class ScriptTest {
         }
     }
 
-    private static BranchNotes sized(int size) {
-        BranchNotes x = new BranchNotes();
+    private static Run sized(int size) {
+        Run x = new Run();
         x.set(0, size);
         return x;
     }
 
     /** The same branches as the simulation's, one by one. */
-    private static void compare(BranchNotes x, long seed, int m) {
-        String before = Check.picture(x);
+    private static void compare(Run x, long seed, int m) {
+        String before = x.picture();
         int got = x.simulate(seed, m);
         CHECK.samePicture("simulate()", x, before);
         int right = x.about(1);

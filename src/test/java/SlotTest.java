@@ -13,7 +13,7 @@ public final class SlotTest {
     }
 
     private static void testSave() {
-        BranchNotes x = new BranchNotes();
+        Run x = new Run();
         CHECK.same("save(0)", x.save(0), 0);
         x.branch(3, true);
         x.branch(3, true);
@@ -26,13 +26,13 @@ public final class SlotTest {
     }
 
     private static void testRestore() {
-        BranchNotes x = Check.with("(a+b-z+)4");
+        Run x = Run.with("(a+b-z+)4");
         x.play();
         x.strengthen(1, 3, 3);
-        String first = Check.picture(x);
+        String first = x.picture();
         CHECK.same("save(0)", x.save(0), 12);
         x.branch(9, true);
-        String second = Check.picture(x);
+        String second = x.picture();
         CHECK.same("save(1)", x.save(1), 13);
         x.forget();
         CHECK.same("restore(0)", x.restore(0), 12);
@@ -50,14 +50,14 @@ public final class SlotTest {
     }
 
     private static void testUndoAround() {
-        BranchNotes x = new BranchNotes();
+        Run x = new Run();
         x.branch(3, true);
         x.branch(3, true);
         x.save(0);
         x.branch(3, true);
         CHECK.same("restore(0)", x.restore(0), 2);
         CHECK.refuses(Check.STATE, "undo(): restore() forgets all", x::undo);
-        String restored = Check.picture(x);
+        String restored = x.picture();
         for (int k = 0; k < 20; k++) {
             x.branch(k, true);
         }
@@ -76,14 +76,14 @@ public final class SlotTest {
     }
 
     private static void testSettingsToo() {
-        BranchNotes x = new BranchNotes();
+        Run x = new Run();
         x.set(0, 6);
         x.set(1, 4);
         x.setDesk(0, 2, 1);
         x.setDesk(0, 1, 3);
         x.branch(25, true);
         x.strengthen(1, 63, 7);
-        String before = Check.picture(x);
+        String before = x.picture();
         x.save(1);
         x.set(0, 2);
         x.set(1, 1);
@@ -93,7 +93,7 @@ public final class SlotTest {
     }
 
     private static void testRefusals() {
-        BranchNotes x = new BranchNotes();
+        Run x = new Run();
         for (int slot : NO_SLOT) {
             CHECK.refuses(Check.INDEX, "save(" + slot + ")", () -> x.save(slot));
             CHECK.refuses(Check.INDEX, "restore(" + slot + ")", () -> x.restore(slot));

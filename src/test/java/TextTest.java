@@ -13,7 +13,7 @@ public final class TextTest {
     }
 
     private static void testAppend() {
-        BranchNotes x = new BranchNotes();
+        Run x = new Run();
         CHECK.refuses(Check.ARGUMENT, "append(-1)", () -> x.append(-1));
         CHECK.refuses(Check.ARGUMENT, "append(256)", () -> x.append(256));
         CHECK.refuses(Check.ARGUMENT, "append(MIN)", () -> x.append(Integer.MIN_VALUE));
@@ -31,24 +31,24 @@ public final class TextTest {
     }
 
     private static void testClearText() {
-        BranchNotes x = Check.with("a+b");
+        Run x = Run.with("a+b");
         CHECK.same("clearText()", x.clearText(), 3);
         CHECK.same("clearText() again", x.clearText(), 0);
         CHECK.same("branches() of nothing", x.branches(), 0);
-        Check.type(x, "c-");
+        x.type("c-");
         CHECK.same("a text after clearText()", x.branches(), 1);
         CHECK.refuses(Check.STATE, "undo(): the text is no action", x::undo);
     }
 
     private static void trace(String text, int branches) {
-        BranchNotes x = Check.with(text);
+        Run x = Run.with(text);
         CHECK.same("errorPosition() of " + text, x.errorPosition(), Check.NONE);
         CHECK.same("branches() of " + text, x.branches(), branches);
         CHECK.same("the length of " + text, x.clearText(), text.length());
     }
 
     private static void error(String text, int position) {
-        BranchNotes x = Check.with(text);
+        Run x = Run.with(text);
         CHECK.same("errorPosition() of " + text, x.errorPosition(), position);
         CHECK.same("branches() of " + text, x.branches(), Check.NONE);
     }
@@ -129,13 +129,13 @@ public final class TextTest {
     }
 
     private static void allowed(String before, String next) {
-        BranchNotes x = new BranchNotes();
+        Run x = new Run();
         for (int c = 0; c <= 255; c++) {
             if (c % 16 == 0) {
-                x = new BranchNotes();
+                x = new Run();
             }
             x.clearText();
-            Check.type(x, before);
+            x.type(before);
             x.append(c);
             int position = x.errorPosition();
             CHECK.same("the character " + c + " behind " + before, position != before.length(),
@@ -144,10 +144,10 @@ public final class TextTest {
     }
 
     private static void testTextIsNoState() {
-        BranchNotes x = new BranchNotes();
+        Run x = new Run();
         x.branch(0, true);
         x.save(0);
-        Check.type(x, "a+b-");
+        x.type("a+b-");
         x.undo();
         CHECK.same("undo() lets the text stay", x.branches(), 2);
         x.restore(0);

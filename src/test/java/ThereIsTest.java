@@ -19,8 +19,8 @@ public final class ThereIsTest {
     }
 
     /** With the first settings the notes 0 and 16 of the desk 0 are the same one, and the desk 1 has a common path. */
-    private static BranchNotes someBranches() {
-        BranchNotes x = new BranchNotes();
+    private static Run someBranches() {
+        Run x = new Run();
         x.branch(0, false);  // right: strength 1 says not taken
         x.branch(0, false);  // right
         x.branch(16, false); // right, a clash in both desks
@@ -29,14 +29,14 @@ public final class ThereIsTest {
         return x;
     }
 
-    private static void about(BranchNotes x, int... due) {
+    private static void about(Run x, int... due) {
         for (int what = 0; what < due.length; what++) {
             CHECK.same("about(" + what + ")", x.about(what), due[what]);
         }
     }
 
     private static void testAbout() {
-        BranchNotes x = someBranches();
+        Run x = someBranches();
         // desk 1's paths: 0, 0, 0, 0, 1: its notes for the place 0 and 16 are 0, 0, 0, 0, 1
         about(x, 5, 3, 3 - 2 * 2, 2, 2, 0, 3, 4, 2, 2);
         x.branch(5, false);
@@ -48,7 +48,7 @@ public final class ThereIsTest {
         x.branch(8, false);
         // desk 1: the paths 12 and 8: the notes 7 ^ 12 = 11, and 8 ^ 8 = 0, a clash with the place 6
         about(x, 9, 7, 3, 2, 4, 4, 4, 4, 2, 2);
-        BranchNotes y = new BranchNotes();
+        Run y = new Run();
         y.set(2, 9);
         y.set(0, 3);
         y.set(1, 1);
@@ -58,20 +58,20 @@ public final class ThereIsTest {
         y.branch(0, true);
         y.branch(0, true);
         about(y, 3, 2, -7, 0, 0, 2, 2, 3, 1, 9);
-        BranchNotes z = new BranchNotes();
+        Run z = new Run();
         z.set(2, 0);
         z.branch(0, true);
         about(z, 1, 0, 0, 0, 0, 0, 0, 4, 2, 0);
     }
 
-    private static void desk(BranchNotes x, int d, int... due) {
+    private static void desk(Run x, int d, int... due) {
         for (int what = 0; what < due.length; what++) {
             CHECK.same("desk(" + d + ", " + what + ")", x.desk(d, what), due[what]);
         }
     }
 
     private static void testDesk() {
-        BranchNotes x = someBranches();
+        Run x = someBranches();
         // desk 0: strengths of its note: 1 0 0 0 1 2, never at least 2 before a branch: right three times
         desk(x, 0, 0, 0, 0, 3, 1);
         // desk 1: note 0: right three times, wrong once; note 1: says not taken, wrong
@@ -87,14 +87,14 @@ public final class ThereIsTest {
         desk(x, 1, 3, 4, 0, 0, 0);
     }
 
-    private static void note(BranchNotes x, int d, int i, int... due) {
+    private static void note(Run x, int d, int i, int... due) {
         for (int what = 0; what < due.length; what++) {
             CHECK.same("note(" + d + ", " + i + ", " + what + ")", x.note(d, i, what), due[what]);
         }
     }
 
     private static void testNote() {
-        BranchNotes x = someBranches();
+        Run x = someBranches();
         note(x, 0, 0, 2, 0, 5, 3);
         note(x, 0, 1, 1, Check.NONE, 0, 0);
         note(x, 1, 0, 1, 0, 4, 3);
@@ -119,14 +119,14 @@ public final class ThereIsTest {
         }
     }
 
-    private static void place(BranchNotes x, int p, int... due) {
+    private static void place(Run x, int p, int... due) {
         for (int what = 0; what < due.length; what++) {
             CHECK.same("place(" + p + ", " + what + ")", x.place(p, what), due[what]);
         }
     }
 
     private static void testPlace() {
-        BranchNotes x = someBranches();
+        Run x = someBranches();
         place(x, 0, 4, 2, 2, 1, 1);
         place(x, 16, 1, 0, 1, 1, 1);
         place(x, 1, 0, 0, 0, 1, 0);
@@ -142,14 +142,14 @@ public final class ThereIsTest {
         place(x, 16, 1, 0, 1, 1, 0);
     }
 
-    private static void paths(BranchNotes x, int d, int due, int... places) {
+    private static void paths(Run x, int d, int due, int... places) {
         for (int p : places) {
             CHECK.same("path(" + d + ", " + p + ")", x.path(d, p), due);
         }
     }
 
     private static void testPath() {
-        BranchNotes x = new BranchNotes();
+        Run x = new Run();
         x.setDesk(0, 1, 2);
         x.setDesk(0, 2, 1);
         x.setDesk(1, 1, 6);
@@ -176,7 +176,7 @@ public final class ThereIsTest {
         int[] places = {0, 3, 9, 15, 25};
         for (int mixing = 0; mixing <= 4; mixing++) {
             for (int d = 0; d < 2; d++) {
-                BranchNotes x = new BranchNotes();
+                Run x = new Run();
                 x.setDesk(d, 0, mixing);
                 x.setDesk(d, 1, 3);
                 x.branch(7, true);
@@ -189,7 +189,7 @@ public final class ThereIsTest {
                 }
             }
         }
-        BranchNotes x = new BranchNotes();
+        Run x = new Run();
         x.set(0, 6);
         x.setDesk(0, 0, 4);
         x.setDesk(0, 1, 1);
@@ -202,7 +202,7 @@ public final class ThereIsTest {
     }
 
     private static void testShare() {
-        BranchNotes x = new BranchNotes();
+        Run x = new Run();
         CHECK.same("share(3) of none", x.share(3), Check.NONE);
         x.branch(3, false);
         CHECK.same("share(3) 0 of 1", x.share(3), 0);
@@ -213,32 +213,56 @@ public final class ThereIsTest {
         CHECK.same("share(2) of none", x.share(2), Check.NONE);
         x.branch(2, true);
         CHECK.same("share(2) 1 of 1", x.share(2), 0x3F800000);
-        // Parts of every greatness: what the library tells of the same division is due.
+        testManyShares();
+    }
+
+    /** Parts of every greatness: what the library tells of the same division is due. */
+    private static void testManyShares() {
         Random random = new Random(3);
-        for (int run = 0; run < 40; run++) {
-            BranchNotes y = new BranchNotes();
+        for (int run = 0; run < 60; run++) {
+            Run x = new Run();
             int some = random.nextInt(100);
             int taken = 0;
-            for (int all = 1; all <= 400; all++) {
+            for (int all = 1; all <= 250; all++) {
                 boolean way = random.nextInt(100) < some;
                 taken += way ? 1 : 0;
-                y.branch(run % 26, way);
-                CHECK.same("share " + taken + " of " + all, y.share(run % 26),
-                        Float.floatToIntBits((float) taken / (float) all));
+                x.branch(run % 26, way);
+                sameShare(x, run % 26, taken, all);
             }
         }
-        BranchNotes z = Check.with("((a-)9(a-)9(a-)9(a-)6)9");
-        z.branch(0, true);
-        for (int k = 0; k < 400; k++) {
-            z.play();
-            int all = 1 + 297 * (k + 1);
-            CHECK.same("share 1 of " + all, z.share(0), Float.floatToIntBits(1f / all));
+        for (int takenOnce = 0; takenOnce <= 33; takenOnce++) {
+            testLargeShares(random, takenOnce);
+        }
+        Run y = Run.with("((a-)9(a-)9(a-)9(a-)6)9");
+        y.branch(0, true);
+        for (int k = 1; k <= 440; k++) {
+            y.play();
+            if (k % 10 == 0) {
+                sameShare(y, 0, 1, 1 + 297 * k);
+            }
         }
     }
 
+    /** Each time 297 branches by the text, and one more, so that the part becomes another one. */
+    private static void testLargeShares(Random random, int takenOnce) {
+        Run x = Run.with("(" + "d+".repeat(takenOnce) + "d-".repeat(33 - takenOnce) + ")9");
+        int taken = 0;
+        for (int k = 1; k <= 140; k++) {
+            x.play();
+            boolean way = random.nextBoolean();
+            x.branch(3, way);
+            taken += 9 * takenOnce + (way ? 1 : 0);
+            sameShare(x, 3, taken, 298 * k);
+        }
+    }
+
+    private static void sameShare(Run x, int p, int taken, int all) {
+        CHECK.same("share " + taken + " of " + all, x.share(p), Float.floatToIntBits((float) taken / (float) all));
+    }
+
     private static void testRefusals() {
-        BranchNotes x = someBranches();
-        String before = Check.picture(x);
+        Run x = someBranches();
+        String before = x.picture();
         for (int what : new int[] {-1, 10, Integer.MIN_VALUE, Integer.MAX_VALUE}) {
             CHECK.refuses(Check.ARGUMENT, "about(" + what + ")", () -> x.about(what));
         }

@@ -18,8 +18,8 @@ public final class WouldBeTest {
     }
 
     private static void testWouldBring() {
-        CHECK.same("wouldBring() of nothing", new BranchNotes().wouldBring(), 0);
-        BranchNotes x = Check.with("a+a+a+a-");
+        CHECK.same("wouldBring() of nothing", new Run().wouldBring(), 0);
+        Run x = Run.with("a+a+a+a-");
         CHECK.same("wouldBring(): wrong, right, right, wrong", x.wouldBring(), -2);
         x.play();
         CHECK.same("points", x.about(2), -2);
@@ -29,47 +29,47 @@ public final class WouldBeTest {
         CHECK.same("wouldBring() with the penalty 9", x.wouldBring(), 2 - 18);
         x.append('a');
         CHECK.same("wouldBring() of no trace", x.wouldBring(), Check.NONE);
-        CHECK.same("wouldBring() of 300", Check.with("((a-)6)5((a-)9)5((a-)9(a-)9(a-)7)9").wouldBring(), 300);
-        CHECK.same("wouldBring() of 301", Check.with("((a-)6)5((a-)9)5((a-)9(a-)9(a-)7)9z-").wouldBring(),
+        CHECK.same("wouldBring() of 300", Run.with("((a-)6)5((a-)9)5((a-)9(a-)9(a-)7)9").wouldBring(), 300);
+        CHECK.same("wouldBring() of 301", Run.with("((a-)6)5((a-)9)5((a-)9(a-)9(a-)7)9z-").wouldBring(),
                 Check.NONE);
     }
 
     private static void testBestMixing() {
-        CHECK.same("bestMixing(0) of nothing", new BranchNotes().bestMixing(0), 0);
-        CHECK.same("bestMixing(1) of nothing", new BranchNotes().bestMixing(1), 0);
+        CHECK.same("bestMixing(0) of nothing", new Run().bestMixing(0), 0);
+        CHECK.same("bestMixing(1) of nothing", new Run().bestMixing(1), 0);
         // Two places with the same way each: their own notes do it best, a path alone (here of 4) mixes them up.
-        CHECK.same("bestMixing(0) of places", Check.with("(a+a+b-b-a+b-)9").bestMixing(0), 0);
+        CHECK.same("bestMixing(0) of places", Run.with("(a+a+b-b-a+b-)9").bestMixing(0), 0);
         // One place whose way changes: only a path can tell.
-        BranchNotes x = Check.with("(a+a-)9(a+a-)9");
+        Run x = Run.with("(a+a-)9(a+a-)9");
         CHECK.same("bestMixing(1) of ways in turn", x.bestMixing(1), 1);
         CHECK.same("bestMixing(0): without a path all but 1 are as good", x.bestMixing(0), 0);
         x.setDesk(0, 1, 4);
         CHECK.same("bestMixing(0) with paths", x.bestMixing(0), 1);
         x.setDesk(0, 0, 4);
         CHECK.same("bestMixing(0), whatever it is now", x.bestMixing(0), 1);
-        BranchNotes y = Check.with("((a+a-)9)9");
+        Run y = Run.with("((a+a-)9)9");
         CHECK.same("bestMixing(0) of 162", y.bestMixing(0), 0);
         y.append('a');
         CHECK.same("bestMixing(0) of no trace", y.bestMixing(0), Check.NONE);
         CHECK.same("bestMixing(1) of no trace", y.bestMixing(1), Check.NONE);
-        BranchNotes z = Check.with("(((a+)9)9)9");
+        Run z = Run.with("(((a+)9)9)9");
         CHECK.same("bestMixing(0) of 729", z.bestMixing(0), Check.NONE);
         CHECK.same("bestMixing(1) of 729", z.bestMixing(1), Check.NONE);
     }
 
     private static void testBestLength() {
-        CHECK.same("bestLength(0) of nothing", new BranchNotes().bestLength(0), 0);
-        BranchNotes x = Check.with("(a+a-)9(a+a-)9");
+        CHECK.same("bestLength(0) of nothing", new Run().bestLength(0), 0);
+        Run x = Run.with("(a+a-)9(a+a-)9");
         CHECK.same("bestLength(1): the last way is enough", x.bestLength(1), 1);
         CHECK.same("bestLength(0): mixing 0 has no paths", x.bestLength(0), 0);
         x.setDesk(0, 0, 1);
         CHECK.same("bestLength(0) of paths", x.bestLength(0), 1);
-        BranchNotes y = Check.with("(a+a+a+a-)9(a+a+a+a-)9");
+        Run y = Run.with("(a+a+a+a-)9(a+a+a+a-)9");
         y.setDesk(1, 0, 1);
         CHECK.same("bestLength(1): three ways are needed", y.bestLength(1), 3);
         y.append('1');
         CHECK.same("bestLength(1) of no trace", y.bestLength(1), Check.NONE);
-        CHECK.same("bestLength(0) of 729", Check.with("(((a+)9)9)9").bestLength(0), Check.NONE);
+        CHECK.same("bestLength(0) of 729", Run.with("(((a+)9)9)9").bestLength(0), Check.NONE);
     }
 
     /** What comes out if every value is set and played, with all sorts of settings. */
@@ -79,7 +79,7 @@ public final class WouldBeTest {
         for (String text : texts) {
             for (int[] s : settings) {
                 for (int own = 0; own < 2; own++) {
-                    BranchNotes x = Check.with(text);
+                    Run x = Run.with(text);
                     for (int what = 0; what < 3; what++) {
                         x.set(what, s[what]);
                     }
@@ -94,14 +94,14 @@ public final class WouldBeTest {
         }
     }
 
-    private static void compareBest(BranchNotes x, String text) {
+    private static void compareBest(Run x, String text) {
         for (int d = 0; d < 2; d++) {
             CHECK.same("bestMixing(" + d + ") of " + text, x.bestMixing(d), tried(x, d, 0, 4));
             CHECK.same("bestLength(" + d + ") of " + text, x.bestLength(d), tried(x, d, 1, 6));
         }
     }
 
-    private static int tried(BranchNotes x, int d, int what, int most) {
+    private static int tried(Run x, int d, int what, int most) {
         int best = -1;
         int points = Integer.MIN_VALUE;
         for (int v = 0; v <= most; v++) {
@@ -118,7 +118,7 @@ public final class WouldBeTest {
     }
 
     private static void testSharing() {
-        BranchNotes x = new BranchNotes();
+        Run x = new Run();
         CHECK.same("sharing(0, 0)", x.sharing(0, 0), 1 << 16);
         CHECK.same("sharing(0, 16)", x.sharing(0, 16), 1);
         CHECK.same("sharing(0, 15)", x.sharing(0, 15), 0);
@@ -143,7 +143,7 @@ public final class WouldBeTest {
     }
 
     private static void testHolds() {
-        BranchNotes x = new BranchNotes();
+        Run x = new Run();
         CHECK.same("holds(0) of the strength 1", x.holds(0), 1);
         x.strengthen(0, 0, 0);
         CHECK.same("holds(0) of the strength 0", x.holds(0), 2);
@@ -164,7 +164,7 @@ public final class WouldBeTest {
         x.strengthen(0, 3, 7);
         CHECK.same("holds(3) of taken", x.holds(3), 1);
         // A place with 3 and a desk 1 whose paths are so long that each branch has a new note for long.
-        BranchNotes y = new BranchNotes();
+        Run y = new Run();
         y.set(0, 6);
         y.set(1, 4);
         y.setDesk(1, 1, 6);
@@ -179,7 +179,7 @@ public final class WouldBeTest {
     }
 
     /** Makes the chooser of the place 5 be 3. */
-    private static void lastIsChosen(BranchNotes x) {
+    private static void lastIsChosen(Run x) {
         for (int k = 0; k < 3; k++) {
             x.strengthen(0, 5, 7);
             x.branch(5, false);
@@ -187,7 +187,7 @@ public final class WouldBeTest {
         CHECK.same("the chooser", x.place(5, 3), 3);
     }
 
-    private static int byBranches(BranchNotes x, int p) {
+    private static int byBranches(Run x, int p) {
         int guess = x.place(p, 4);
         x.save(0);
         int count = 0;
@@ -203,7 +203,7 @@ public final class WouldBeTest {
     private static void testHoldsOfMany() {
         int longest = 0;
         for (int run = 0; run < 500; run++) {
-            BranchNotes x = new BranchNotes();
+            Run x = new Run();
             x.set(0, 2 + run % 5);
             x.set(1, 1 + run % 4);
             x.setDesk(run % 2, 0, run / 4 % 5);
@@ -224,7 +224,7 @@ public final class WouldBeTest {
     }
 
     private static void testWorst() {
-        BranchNotes x = new BranchNotes();
+        Run x = new Run();
         CHECK.same("worst() of nothing", x.worst(), Check.NONE);
         x.branch(3, false);
         CHECK.same("worst() without a wrong guess", x.worst(), Check.NONE);
@@ -242,10 +242,10 @@ public final class WouldBeTest {
     }
 
     private static void testNothingChanges() {
-        BranchNotes x = Check.with("(a+b-q+)5");
+        Run x = Run.with("(a+b-q+)5");
         x.branch(3, true);
         x.play();
-        String before = Check.picture(x);
+        String before = x.picture();
         x.wouldBring();
         CHECK.samePicture("wouldBring()", x, before);
         x.bestMixing(0);
@@ -263,7 +263,7 @@ public final class WouldBeTest {
     }
 
     private static void testRefusals() {
-        BranchNotes x = Check.with("a");
+        Run x = Run.with("a");
         for (int d : NO_DESK) {
             CHECK.refuses(Check.INDEX, "bestMixing(" + d + ")", () -> x.bestMixing(d));
             CHECK.refuses(Check.INDEX, "bestLength(" + d + ")", () -> x.bestLength(d));
@@ -273,6 +273,6 @@ public final class WouldBeTest {
             CHECK.refuses(Check.INDEX, "sharing(0, " + p + ")", () -> x.sharing(0, p));
             CHECK.refuses(Check.INDEX, "holds(" + p + ")", () -> x.holds(p));
         }
-        CHECK.samePicture("refused calls", x, Check.picture(new BranchNotes()));
+        CHECK.samePicture("refused calls", x, new Run().picture());
     }
 }
